@@ -504,12 +504,6 @@ public final class FindTables {
         return index >= 0 && index < row.length ? row[index] : 0L;
     }
 
-    private static void put(long[] row, int index, long value) {
-        if (index >= 0 && index < row.length) {
-            row[index] = value;
-        }
-    }
-
     private static int exchange(int[] row, int index, int value) {
         int previous = at(row, index);
         put(row, index, value);
@@ -619,13 +613,19 @@ public final class FindTables {
 
         /** The bits of which none may be set if the entry is to be drawn. */
         int stopBits(int table, int place) {
-            return spentBit(place) | groupBit(table, at(groups, place));
+            if (place < 0 || place >= PLACES) {
+                return 0;
+            }
+            return spentBit(place) | groupBit(table, groups[place]);
         }
 
         /** The bits that are set when the entry has been drawn. */
         int drawnBits(int table, int place) {
-            int spent = at(onces, place) != 0 ? spentBit(place) : 0;
-            return spent | groupBit(table, at(groups, place));
+            if (place < 0 || place >= PLACES) {
+                return 0;
+            }
+            int spent = onces[place] != 0 ? spentBit(place) : 0;
+            return spent | groupBit(table, groups[place]);
         }
 
         void spendIfOnce(int place) {
@@ -639,6 +639,7 @@ public final class FindTables {
         private static final long SUMMAND = 12345L;
         private static final long MODULUS = 2147483648L;
         private static final int LOW_PART = 65536;
+        private static final int HUNDRED = 100;
 
         private final int[] counters = new int[RARITIES];
         private final int[] limits = new int[RARITIES];
@@ -657,9 +658,18 @@ public final class FindTables {
             return n > 0 ? s / LOW_PART % n : 0;
         }
 
+        int risen(int weight, int rarity) {
+            if (rarity < 1 || rarity > MOST_RARITY) {
+                return weight;
+            }
+            return weight * (HUNDRED + rise * counters[rarity]) / HUNDRED;
+        }
+
         boolean isDue(int rarity) {
-            int limit = at(limits, rarity);
-            return limit > 0 && at(counters, rarity) + 1 >= limit;
+            if (rarity < 1 || rarity > MOST_RARITY) {
+                return false;
+            }
+            return limits[rarity] > 0 && counters[rarity] + 1 >= limits[rarity];
         }
 
         void countOpening(int bestRarity) {
@@ -743,8 +753,6 @@ public final class FindTables {
 
     /** All that undo brings back. */
     private static final class State {
-        private static final int HUNDRED = 100;
-
         private final Tables tables = new Tables();
         private final Luck luck = new Luck();
         private final Finds finds = new Finds();
@@ -756,12 +764,10 @@ public final class FindTables {
         }
 
         int presentWeight(int place) {
-            int weight = at(tables.weights, place);
-            int rarity = at(tables.rarities, place);
-            if (rarity <= 0) {
-                return weight;
+            if (place < 0 || place >= PLACES) {
+                return 0;
             }
-            return weight * (HUNDRED + luck.rise * at(luck.counters, rarity)) / HUNDRED;
+            return luck.risen(tables.weights[place], tables.rarities[place]);
         }
     }
 
@@ -830,25 +836,25 @@ public final class FindTables {
 
         private void weigh(State state, int lowestTable, int gone, int leastRarity) {
             for (int table = TABLES - 1; table >= lowestTable && table >= 0; table--) {
+                int first = placeOf(table, 0);
+                int end = Math.min(PLACES, first + state.tables.countOf(table));
                 int sum = 0;
-                for (int entry = 0; entry < state.tables.countOf(table); entry++) {
-                    int place = placeOf(table, entry);
+                for (int place = first; place < end; place++) {
                     boolean free = (gone & state.tables.stopBits(table, place)) == 0;
                     boolean can = free && reaches(state.tables, place, leastRarity);
-                    int weight = can ? state.presentWeight(place) : 0;
-                    put(weights, place, weight);
-                    sum += weight;
+                    weights[place] = can ? state.presentWeight(place) : 0;
+                    sum += weights[place];
                 }
-                put(sums, table, sum);
+                sums[table] = sum;
             }
         }
 
         private boolean reaches(Tables tables, int place, int leastRarity) {
-            int what = at(tables.whats, place);
-            if (isLink(what)) {
-                return at(sums, linkedTable(what)) > 0;
+            if (place < 0 || place >= PLACES) {
+                return false;
             }
-            return at(tables.rarities, place) >= leastRarity;
+            int what = tables.whats[place];
+            return isLink(what) ? sumOf(linkedTable(what)) > 0 : tables.rarities[place] >= leastRarity;
         }
 
         int weightAt(int place) {
@@ -856,7 +862,7 @@ public final class FindTables {
         }
 
         int sumOf(int table) {
-            return at(sums, table);
+            return table >= 0 && table < TABLES ? sums[table] : 0;
         }
 
         /** The entry with which the sum of the weights first becomes greater than the number. */
@@ -974,40 +980,44 @@ public final class FindTables {
 
         /** Calls itself only for a higher table. */
         private void handOn(State state, int table, int done, int gone, int bestRarity, long share) {
+            Tables tables = state.tables;
             Draw draw = done == 0 ? first : second;
             long sum = draw.sumOf(table);
-            for (int entry = 0; entry < state.tables.countOf(table); entry++) {
-                int place = placeOf(table, entry);
-                int weight = draw.weightAt(place);
-                if (weight <= 0 || sum <= 0) {
+            if (table < 0 || sum <= 0) {
+                return;
+            }
+            int start = placeOf(table, 0);
+            int end = Math.min(PLACES, start + tables.countOf(table));
+            for (int place = start; place < end; place++) {
+                int weight = draw.weights[place];
+                if (weight <= 0) {
                     continue;
                 }
                 long part = share * weight / sum;
-                int goneThen = gone | state.tables.drawnBits(table, place);
-                int what = at(state.tables.whats, place);
+                int goneThen = gone | tables.drawnBits(table, place);
+                int what = tables.whats[place];
                 if (!isLink(what)) {
                     put(way, done, what);
-                    int bestThen = Math.max(bestRarity, at(state.tables.rarities, place));
-                    goOn(state, done + 1, goneThen, bestThen, part);
-                } else if (linkedTable(what) > table && linkedTable(what) < TABLES) {
+                    goOn(state, done + 1, goneThen, Math.max(bestRarity, tables.rarities[place]), part);
+                } else if (linkedTable(what) > table) {
                     handOn(state, linkedTable(what), done, goneThen, bestRarity, part);
                 }
             }
         }
 
         private void endOpening(int done, int bestRarity, long share) {
-            for (int i = 0; i < done; i++) {
-                int item = at(way, i);
-                if (item == NONE) {
+            for (int i = 0; i < done && i < MOST_DRAWS; i++) {
+                int item = way[i];
+                if (item < 0 || item >= ITEMS) {
                     continue;
                 }
                 mean += share;
-                if (i == 0 || at(way, i - 1) != item) {
-                    put(itemShares, item, at(itemShares, item) + share);
+                if (i == 0 || way[i - 1] != item) {
+                    itemShares[item] += share;
                 }
             }
-            if (bestRarity != NONE) {
-                put(bestShares, bestRarity, at(bestShares, bestRarity) + share);
+            if (bestRarity >= 0 && bestRarity <= MOST_RARITY) {
+                bestShares[bestRarity] += share;
             }
         }
     }
