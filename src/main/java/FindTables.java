@@ -516,7 +516,7 @@ public final class FindTables {
 
     /** The draws and the entries of all tables. */
     private static final class Tables {
-        private final int[] draws = new int[TABLES];
+        private final int[] draws = {1, 1, 1};
         private final int[] counts = new int[TABLES];
         private final int[] whats = new int[PLACES];
         private final int[] weights = new int[PLACES];
@@ -524,10 +524,6 @@ public final class FindTables {
         private final int[] groups = new int[PLACES];
         private final int[] onces = new int[PLACES];
         private final int[] spents = new int[PLACES];
-
-        Tables() {
-            Arrays.fill(draws, 1);
-        }
 
         void makeEmpty() {
             Arrays.fill(draws, 1);
