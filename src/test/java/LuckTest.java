@@ -22,6 +22,8 @@ public final class LuckTest {
         check.due("9: told", x.luck(1, false) * 100 + x.luck(2, false) * 10 + x.luck(3, false), 79);
         check.due("9: limits stay", x.luck(1, true) + x.luck(2, true) + x.luck(3, true), 0);
         check.due("9: undoable", x.undo(), 3);
+        check.due("9: the same value", x.setCounter(3, 9), 9);
+        check.due("9: undoable too", x.undo(), 3);
         check.due("9: undone", x.luck(1, false), 200);
         check.dueThrow("9: rarity 0", x, INDEX, () -> x.setCounter(0, 1));
         check.dueThrow("9: rarity 4, value wrong too", x, INDEX, () -> x.setCounter(4, 201));
@@ -39,6 +41,8 @@ public final class LuckTest {
         check.due("10: told", x.luck(1, true) * 100 + x.luck(2, true) * 10 + x.luck(3, true), 79);
         check.due("10: counters stay", x.luck(1, false) + x.luck(2, false) + x.luck(3, false), 0);
         check.due("10: undoable", x.undo(), 3);
+        check.due("10: the same value", x.setLimit(3, 9), 9);
+        check.due("10: undoable too", x.undo(), 3);
         check.due("10: undone", x.luck(1, true), 200);
         check.dueThrow("10: rarity 0", x, INDEX, () -> x.setLimit(0, 1));
         check.dueThrow("10: rarity 4, value wrong too", x, INDEX, () -> x.setLimit(4, 201));
@@ -65,6 +69,15 @@ public final class LuckTest {
         check.due("11: undoable", x.undo(), 1);
         check.due("11: s undone", x.value(1), 999999);
         check.due("11: rise undone", x.value(0), 0);
+        FindTables y = Check.tables("e0,1,1,00;");
+        y.setRise(50, 999999);
+        y.open(0);
+        check.due("11: s above what can be set", y.value(1), 1751684876);
+        check.due("11: as it is", y.setRise(49, -1), 50);
+        check.due("11: it stays", y.value(1), 1751684876);
+        check.due("11: least s", y.setRise(49, 0), 49);
+        y.undo();
+        check.due("11: undone to what was above", y.value(1), 1751684876);
         check.dueThrow("11: rise -1", x, ARGUMENT, () -> x.setRise(-1, 1));
         check.dueThrow("11: rise 51", x, ARGUMENT, () -> x.setRise(51, 1));
         check.dueThrow("11: s -2", x, ARGUMENT, () -> x.setRise(1, -2));
@@ -101,6 +114,20 @@ public final class LuckTest {
         check.due("13: spent", x.value(6), 2);
         check.due("13: different items", x.value(7), 2);
         check.due("13: s after 63 numbers", x.value(1), numberAfter(63));
+        FindTables all = Check.tables("e0,0,1,00o;");
+        all.open(0);
+        check.due("13: item 0 is an item too", all.value(7), 1);
+        all.removeEntry(0, 0);
+        check.due("13: a spent entry that is removed", all.value(5) * 10 + all.value(6), 0);
+        check.due("13: its find stays", all.value(3) * 100 + all.value(4) * 10 + all.value(7), 111);
+        for (int item = 1; item < 16; item++) {
+            check.due("13: different items before " + item, all.value(7), item);
+            all.addEntry(1, item, 1, 0, 0, false);
+            all.open(1);
+            all.removeEntry(1, 0);
+        }
+        check.due("13: all items", all.value(7), 16);
+        check.due("13: kept below 20", all.value(4), 16);
         check.dueThrow("13: what -1", x, ARGUMENT, () -> x.value(-1));
         check.dueThrow("13: what 8", x, ARGUMENT, () -> x.value(8));
     }

@@ -22,6 +22,7 @@ public final class ModelTest {
             oneRun(run);
         }
         manyTexts();
+        everyByteEverywhere();
         check.finish();
     }
 
@@ -166,5 +167,26 @@ public final class ModelTest {
         }
         check.dueTrue("enough of the texts are right ones, and enough wrong ones: " + whole,
                 whole > TEXTS / 5 && whole < TEXTS * 4 / 5);
+    }
+
+    /** Each byte put at each place of a text, and in the stead of each of its bytes. */
+    private static void everyByteEverywhere() {
+        FindTables x = new FindTables();
+        Model m = new Model();
+        String[] texts = {"e0,17,1000,03o;d12;", "e1,9,1001,00;", "e2,18,07,31;e2", "e0,1,1,00;".repeat(6) + "d01;e0,19"};
+        for (String text : texts) {
+            for (int place = 0; place <= text.length(); place++) {
+                for (int b = 0; b < 128; b++) {
+                    String head = text.substring(0, place) + (char) b;
+                    dueParse(head + text.substring(place), x, m);
+                    dueParse(head + text.substring(Math.min(text.length(), place + 1)), x, m);
+                }
+            }
+        }
+    }
+
+    private static void dueParse(String text, FindTables x, Model m) {
+        write(text, x, m, new StringBuilder());
+        check.due("parse of " + text, x.parse(), m.parse());
     }
 }

@@ -191,6 +191,15 @@ public final class OpeningsTest {
         check.due("15: most", x.openOften(0, 200), 200);
         check.due("15: empty table", x.openOften(1, 200), 0);
         check.due("15: all of them", x.value(2), 401);
+        FindTables once = Check.tables("e0,1,1,20o;e1,2,1,00;");
+        check.due("15: the first of five empties it", once.openOften(0, 5), 1);
+        check.due("15: the others are openings", once.value(2) * 10 + once.luck(2, false), 54);
+        check.due("15: one saved state for five", once.undo(), 1);
+        check.due("15: all five undone", once.value(2) + once.value(3) + once.value(6) + once.luck(2, false), 0);
+        FindTables wanted = Check.tables("e0,1,1000,00;e0,2,1,30;");
+        wanted.setLimit(3, 4);
+        wanted.openOften(0, 200);
+        check.dueTrue("15: certain in each fourth at the latest", wanted.often(2) >= 50);
         check.dueThrow("15: table 3, times wrong too", x, INDEX, () -> x.openOften(3, 0));
         check.dueThrow("15: table -1", x, INDEX, () -> x.openOften(-1, 1));
         check.dueThrow("15: times 0", x, ARGUMENT, () -> x.openOften(0, 0));
@@ -236,6 +245,13 @@ public final class OpeningsTest {
         check.due("17: another", x.often(7), 0);
         x.undo();
         check.due("17: undone", x.often(15), 7);
+        FindTables twice = Check.tables("d02;e0,15,1,00;");
+        twice.open(0);
+        check.due("17: twice in an opening", twice.often(15), 2);
+        twice.removeEntry(0, 0);
+        check.due("17: the entry removed", twice.often(15), 2);
+        twice.parse();
+        check.due("17: other tables", twice.often(15), 2);
         check.dueThrow("17: item -1", x, INDEX, () -> x.often(-1));
         check.dueThrow("17: item 16", x, INDEX, () -> x.often(16));
     }

@@ -41,6 +41,14 @@ public final class TablesTest {
         check.due("1: no find", x.find(0, 0), -1);
         check.due("1: no text", x.clearText(), 0);
         check.due("1: NONE", FindTables.NONE, -1);
+        for (int t = 0; t < 3; t++) {
+            int table = t;
+            check.due("1: nothing to find in table " + t, x.chanceOf(t, 0) + x.chanceRare(t, 0) + x.meanFinds(t), 0);
+            check.due("1: never found in table " + t, x.soonest(t, 15), -1);
+            check.due("1: no best entry in table " + t, x.bestDouble(t, 15), -1);
+            check.dueThrow("1: no entry in table " + t, x, INDEX, () -> x.entry(table, 0, 0));
+        }
+        check.dueDouble("1: lucky share", x.luckyShare(), 0.0);
         check.dueThrow("1: nothing saved", x, STATE, () -> x.undo());
         FindTables y = new FindTables();
         y.addEntry(0, 1, 1, 0, 0, false);
@@ -128,6 +136,7 @@ public final class TablesTest {
         }
         check.due("4: spent moves along", x.entry(0, 1, 5), spentThird);
         check.due("4: all three were tried", spentThird, 1);
+        check.due("4: the entries that move keep what they are", x.entry(0, 0, 5) + x.entry(0, 2, 5), 1);
         check.due("4: other table stays", x.entry(1, 0, 0), 4);
         check.due("4: finds stay", x.often(2) + x.often(3) + x.often(1), x.value(3) - x.often(4));
         check.due("4: last", x.removeEntry(0, 2), 2);
@@ -166,6 +175,9 @@ public final class TablesTest {
     }
 
     private static void promise6Restore() {
+        FindTables empty = new FindTables();
+        check.due("6: no entries", empty.restore(), 0);
+        check.due("6: undoable without entries", empty.undo(), 0);
         FindTables x = Check.tables("d02;e0,1,1,00o;e0,17,1,00o;e1,2,1,00o;e2,3,1,00;");
         check.due("6: nothing spent", x.restore(), 0);
         check.due("6: undoable though nothing changed", x.undo(), 1);

@@ -16,6 +16,10 @@ public final class TextTest {
         promise27SeventhEntry();
         promise27FaultChangesNothing();
         promise27WholeText();
+        promise27EachByte();
+        promise27EachByteOfNumbers();
+        promise27FormerText();
+        promise27LastDraws();
         check.finish();
     }
 
@@ -219,5 +223,108 @@ public final class TextTest {
         check.due("27: 160 bytes", Check.withText(text).parse(), 13);
         dueFault(text.substring(0, 159), 159);
         dueFault(text.substring(0, 159) + "x", 159);
+    }
+
+    /** Behind the head just these bytes can stand; any other one is the fault. */
+    private static void dueNext(String head, String right) {
+        for (int b = 0; b < 128; b++) {
+            FindTables x = Check.withText(head);
+            x.append(b);
+            int answer = x.parse();
+            boolean stands = right.indexOf(b) >= 0;
+            check.dueTrue("27: byte " + b + " behind " + head + " answers " + answer, stands != (answer == -10 - head.length()));
+        }
+        if (!head.isEmpty() && !head.endsWith(";")) {
+            dueFault(head, head.length());
+        }
+    }
+
+    private static void promise27EachByte() {
+        String digits = "0123456789";
+        dueNext("", "de");
+        dueNext("d", "012");
+        dueNext("d2", "12");
+        dueNext("d22", ";");
+        dueNext("d22;", "de");
+        dueNext("e", "012");
+        dueNext("e2", ",");
+        dueNext("e2,", digits);
+        dueNext("e2,0", digits + ",");
+        dueNext("e2,1", digits + ",");
+        dueNext("e2,15", ",");
+        dueNext("e2,00", ",");
+        dueNext("e2,15,", "123456789");
+        dueNext("e2,15,1", digits + ",");
+        dueNext("e2,15,10", digits + ",");
+        dueNext("e2,15,100", digits + ",");
+        dueNext("e2,15,1000", ",");
+        dueNext("e2,15,0001", ",");
+        dueNext("e2,15,1000,", "0123");
+        dueNext("e2,15,1000,3", "0123");
+        dueNext("e2,15,1000,33", "o;");
+        dueNext("e2,15,1000,33o", ";");
+        dueNext("e2,15,1000,33;", "de");
+        dueNext("e2,15,1000,33o;", "de");
+        dueNext("e0,17,1,", "0");
+        dueNext("e0,18,1,0", "0123");
+        dueNext("e1,18,1,03", "o;");
+        String six = "e1,1,1,00;".repeat(6);
+        dueNext(six + "e", "02");
+        dueNext(six + "d", "012");
+        dueNext(six.substring(10) + "e", "012");
+    }
+
+    /** A number out of its range, with each byte behind it: the first digit, unless the byte is a digit too many. */
+    private static void promise27EachByteOfNumbers() {
+        String[] wholes = {"e0,19", "e0,99", "e0,16", "e1,16", "e1,17", "e2,16", "e2,17", "e2,18",
+            "e0,1,0000", "e0,1,1001", "e0,1,9999"};
+        for (String whole : wholes) {
+            int first = whole.lastIndexOf(',') + 1;
+            dueFault(whole, first);
+            for (int b = 0; b < 128; b++) {
+                FindTables x = Check.withText(whole);
+                x.append(b);
+                boolean digit = b >= '0' && b <= '9';
+                check.due("27: byte " + b + " behind " + whole, x.parse(), -10 - (digit ? whole.length() : first));
+            }
+        }
+        for (String zeros : new String[] {"0", "00", "000"}) {
+            for (int b = 0; b < 128; b++) {
+                FindTables x = Check.withText("e0,1," + zeros);
+                x.append(b);
+                boolean more = b >= '1' && b <= '9';
+                check.due("27: byte " + b + " behind weight " + zeros, x.parse(), -10 - (more ? 6 + zeros.length() : 5));
+            }
+        }
+    }
+
+    private static void promise27FormerText() {
+        FindTables x = Check.withText("e0,1,1,00;e0,2,2,00;");
+        check.due("27: whole", x.parse(), 2);
+        x.clearText();
+        check.due("27: of a text that is empty again", x.parse(), 0);
+        String text = "e0,1,1,00";
+        for (int i = 0; i < text.length(); i++) {
+            check.due("27: the former text does not go on behind the new one", x.parse(), i == 0 ? 0 : -10 - i);
+            x.append(text.charAt(i));
+        }
+        check.due("27: nor its last byte", x.parse(), -10 - 9);
+        x.append(';');
+        check.due("27: whole again", x.parse(), 1);
+        FindTables full = Check.withText("d01;".repeat(40));
+        check.due("27: full text", full.parse(), 0);
+        full.clearText();
+        Check.write(full, "d02;".repeat(39) + "d02");
+        check.due("27: one byte less than the former one", full.parse(), -10 - 159);
+        check.due("27: unchanged by it", full.table(0, 0), 1);
+    }
+
+    private static void promise27LastDraws() {
+        FindTables x = Check.withText("d02;d01;d12;d11;d12;");
+        check.due("27: no entries", x.parse(), 0);
+        check.due("27: told several times: the last one", x.table(0, 0) * 100 + x.table(1, 0) * 10 + x.table(2, 0), 121);
+        check.due("27: parsed twice", x.parse(), 0);
+        check.due("27: the same again", x.table(0, 0) * 100 + x.table(1, 0) * 10 + x.table(2, 0), 121);
+        check.due("27: each is saved", x.undo(), 1);
     }
 }

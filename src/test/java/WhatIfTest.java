@@ -9,6 +9,8 @@ public final class WhatIfTest {
         promise23At300();
         promise24BestDouble();
         promise24Ties();
+        promise24AtMost1000();
+        promise24NotDrawable();
         check.finish();
     }
 
@@ -100,5 +102,37 @@ public final class WhatIfTest {
         z.setRise(50, -1);
         z.setCounter(1, 1);
         check.due("24: present weights: doubled 1 is 3 with the rise", z.bestDouble(0, 6), 1);
+    }
+
+    private static void promise24AtMost1000() {
+        FindTables x = Check.tables("e0,5,1000,00;e0,1,999,00;e0,1,501,00;e0,1,500,00;");
+        check.due("24: 500 becomes 1000", x.bestDouble(0, 1), 3);
+        x.setWeight(0, 3, 501);
+        check.due("24: 501 becomes 1000 too, the lowest of both", x.bestDouble(0, 1), 2);
+        x.setWeight(0, 3, 1000);
+        check.due("24: 1000 stays 1000", x.bestDouble(0, 1), 2);
+        x.setWeight(0, 2, 1000);
+        check.due("24: 999 gains 1", x.bestDouble(0, 1), 1);
+        x.setWeight(0, 1, 1000);
+        check.due("24: none gains, the lowest one", x.bestDouble(0, 1), 0);
+        check.due("24: weights stay", x.table(0, 3), 4000);
+    }
+
+    private static void promise24NotDrawable() {
+        FindTables x = Check.tables("e0,1,1,00o;e0,2,3,00;e0,1,1,00;e0,17,5,00;");
+        x.setRise(0, 0);
+        x.open(0);
+        check.due("24: the first one is spent", x.entry(0, 0, 5), 1);
+        check.due("24: the other one with the item", x.bestDouble(0, 1), 2);
+        check.due("24: the same for all: the lowest one, though spent", x.bestDouble(0, 9), 0);
+        x.open(0);
+        FindTables one = Check.tables("e0,1,1,00;");
+        check.due("24: one entry", one.bestDouble(0, 1), 0);
+        check.due("24: one entry of another item", one.bestDouble(0, 2), 0);
+        FindTables wanted = Check.tables("e0,1,1,00;e0,2,1,10;e0,1,1,10;");
+        wanted.setLimit(1, 1);
+        check.due("24: entry 0 cannot be drawn", wanted.bestDouble(0, 1), 2);
+        FindTables last = Check.tables("e0,9,1,00;e0,9,1,00;e0,9,1,00;e0,9,1,00;e0,9,1,00;e0,1,1,00;");
+        check.due("24: the sixth entry", last.bestDouble(0, 1), 5);
     }
 }
